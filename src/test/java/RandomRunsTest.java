@@ -15,7 +15,7 @@ public final class RandomRunsTest {
 
     public static void main(String[] args) {
         RandomRunsTest test = new RandomRunsTest();
-        int runs = args.length > 1 ? Integer.parseInt(args[1]) : 120;
+        int runs = args.length > 1 ? Integer.parseInt(args[1]) : 80;
         int from = args.length > 2 ? Integer.parseInt(args[2]) : 0;
         for (int run = from; run < from + runs; run++) {
             test.run(run, 12);
