@@ -1239,6 +1239,9 @@ public final class BandEngraver {
         }
 
         private int enqueue(int c, int end) {
+            if (end >= MOST_CELLS) {
+                return end;
+            }
             if (firsts[c] == c) {
                 // The island that was called by this cell is no longer one of its own.
                 count--;
@@ -1474,7 +1477,8 @@ public final class BandEngraver {
                 for (int y = row - 1; y <= row + 1; y++) {
                     for (int x = column - 1; x <= column + 1; x++) {
                         int c = y * islands.columns + x;
-                        if (islands.isOnPlate(x, y) && seen[c] == 0 && islands.islandAt(c) != i) {
+                        if (islands.isOnPlate(x, y) && seen[c] == 0 && islands.islandAt(c) != i
+                                && end < MOST_CELLS) {
                             seen[c] = 1;
                             queue[end] = c;
                             end++;

@@ -12,6 +12,7 @@ public final class TellingTest {
 
     public static void main(String[] args) {
         newObject();
+        islandOfNewObject();
         aboutArguments();
         aboutRing();
         aboutMergedCells();
@@ -29,6 +30,7 @@ public final class TellingTest {
         borders();
         outlines();
         outlineOfAPinch();
+        outlineOfAComb();
         bands();
         ink();
         CHECKS.end();
@@ -49,6 +51,17 @@ public final class TellingTest {
         CHECKS.due("new, errorPosition", 0, () -> x.errorPosition());
         CHECKS.wrongState("new, undo", () -> x.undo());
         CHECKS.wrongState("new, restore(0)", () -> x.restore(0));
+    }
+
+    /** Asked before anything else is: the first answer must not lean on an earlier finding. */
+    private static void islandOfNewObject() {
+        CHECKS.due("new, island(0, 7)", -1, () -> new BandEngraver().island(0, 7));
+        CHECKS.due("new, border(0, 0)", 0, () -> new BandEngraver().border(0, 0));
+        CHECKS.due("new, outline(0, 0)", 32, () -> new BandEngraver().outline(0, 0));
+        CHECKS.due("new, outlineWay(0, 31)", 3, () -> new BandEngraver().outlineWay(0, 31));
+        CHECKS.noSuch("new, outlineWay(0, 32)", () -> new BandEngraver().outlineWay(0, 32));
+        CHECKS.noSuch("new, island(1, 0)", () -> new BandEngraver().island(1, 0));
+        islandIs(new BandEngraver(), 0, 0, 64, 0, 0, 32, 0, 0, -1, 0);
     }
 
     private static void aboutArguments() {
@@ -295,6 +308,25 @@ public final class TellingTest {
     private static void outlineOfAPinch() {
         BandEngraver x = Pictures.plate("111", "101", "110");
         outlineIs(x, 0, "0001123210122333", 7, 3);
+    }
+
+    /** A comb of six teeth: its 78 cells hang together as a tree, which makes 2 * 78 + 2 sides. */
+    private static void outlineOfAComb() {
+        BandEngraver x = new BandEngraver();
+        x.plate(12, 12);
+        x.box(0, 11, 0, 0, 90);
+        for (int column = 0; column < 12; column += 2) {
+            x.box(column, column, 0, 11, 90);
+        }
+        CHECKS.due("sides of the comb", 158, () -> x.outline(0, 0));
+        // At the end of the back the outline turns right once more, below its overhang.
+        CHECKS.due("turns to the right", 15, () -> x.outline(0, 1));
+        CHECKS.due("turns to the left", 11, () -> x.outline(0, 2));
+        CHECKS.due("the last side", 3, () -> x.outlineWay(0, 157));
+        // The first tooth's left side is twelve cells long.
+        CHECKS.due("the foot of the first tooth", 2, () -> x.outlineWay(0, 145));
+        CHECKS.due("its left side", 3, () -> x.outlineWay(0, 146));
+        CHECKS.noSuch("behind the last side", () -> x.outlineWay(0, 158));
     }
 
     private static void bandIs(BandEngraver x, int b, int... want) {
