@@ -238,6 +238,12 @@ public final class WhatIfTest {
         command(x, 80000001, false);
         command(x, 80000002, true);
         command(x, 70010004, true);
+        BandEngraver many = Pictures.plate("010101010101", "101010101010");
+        for (long i = 0; i < 24; i++) {
+            command(many, 70000001 + i * 10000, true);
+            command(many, 70000002 + i * 10000, false);
+        }
+        command(many, 70240000, false);
     }
 
     private static void pair(BandEngraver x, long first, long second, int want) {
