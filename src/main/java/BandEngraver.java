@@ -478,15 +478,15 @@ public final class BandEngraver {
             case 7:
             case 8:
             case 9:
+                trialIslands.survey(trial, trial.leastSize);
                 return holdsGroup(group);
             default:
                 return false;
         }
     }
 
-    /** Whether a command of a script that only asks succeeds on the trial state. */
+    /** Whether a command of a script that only asks succeeds on the islands of the trial state. */
     private boolean holdsGroup(int group) {
-        trialIslands.survey(trial, trial.leastSize);
         int number = group % 1000;
         switch (group / 10000000) {
             case 7:

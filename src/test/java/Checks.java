@@ -41,6 +41,19 @@ final class Checks {
         }
     }
 
+    /** A question whose answer must be yes. */
+    void yes(String what, boolean holds) {
+        same(what, "true", Boolean.toString(holds));
+    }
+
+    int looked() {
+        return checked;
+    }
+
+    int wrong() {
+        return wrong;
+    }
+
     void end() {
         System.out.println(checked + " answers looked at, " + wrong + " wrong");
         if (wrong != 0) {

@@ -18,6 +18,28 @@ final class Pictures {
         return x;
     }
 
+    /** A plate with the threshold 50 whose cells are 0 and 99 in turns: each is an island. */
+    static BandEngraver chequered(int columns, int rows) {
+        BandEngraver x = new BandEngraver();
+        x.plate(columns, rows);
+        for (int c = 0; c < columns * rows; c++) {
+            if ((c % columns + c / columns) % 2 == 1) {
+                x.cell(c % columns, c / columns, 99);
+            }
+        }
+        return x;
+    }
+
+    /** One row of these greys, with the threshold 50. */
+    static BandEngraver row(int... greys) {
+        BandEngraver x = new BandEngraver();
+        x.plate(greys.length, 1);
+        for (int k = 0; k < greys.length; k++) {
+            x.cell(k, 0, greys[k]);
+        }
+        return x;
+    }
+
     /** The picture of the bands of all cells. */
     static String bands(BandEngraver x) {
         return picture(x, 2);
@@ -47,6 +69,16 @@ final class Pictures {
         return found.toString();
     }
 
+    /** The ways of all sides of an outline. */
+    static String ways(BandEngraver x, int i) {
+        StringBuilder found = new StringBuilder();
+        int sides = x.outline(i, 0);
+        for (int k = 0; k < sides; k++) {
+            found.append(x.outlineWay(i, k));
+        }
+        return found.toString();
+    }
+
     static void write(BandEngraver x, String text) {
         x.clearText();
         for (int k = 0; k < text.length(); k++) {
@@ -65,6 +97,41 @@ final class Pictures {
             found.append(' ').append(x.band(b, 0));
         }
         return found.append(' ').append(x.ink()).append(' ').append(x.errorPosition()).toString();
+    }
+
+    /** The answers to all questions of what there is, but for the text. */
+    static String everything(BandEngraver x) {
+        StringBuilder found = new StringBuilder(thresholds(x));
+        for (int what = 0; what <= 10; what++) {
+            found.append(' ').append(x.about(what));
+        }
+        for (int c = 0; c < x.about(0) * x.about(1); c++) {
+            for (int what = 0; what <= 5; what++) {
+                found.append(' ').append(x.cellOf(c % x.about(0), c / x.about(0), what));
+            }
+        }
+        for (int b = 0; b <= x.about(2); b++) {
+            for (int what = 0; what <= 3; what++) {
+                found.append(' ').append(x.band(b, what));
+            }
+        }
+        for (int i = 0; i < x.about(4); i++) {
+            island(x, i, found);
+        }
+        return found.append(' ').append(x.ink()).toString();
+    }
+
+    private static void island(BandEngraver x, int i, StringBuilder found) {
+        for (int what = 0; what <= 8; what++) {
+            found.append(' ').append(x.island(i, what));
+        }
+        for (int j = 0; j < x.about(4); j++) {
+            found.append(' ').append(x.border(i, j));
+        }
+        for (int what = 0; what <= 2; what++) {
+            found.append(' ').append(x.outline(i, what));
+        }
+        found.append(' ').append(ways(x, i));
     }
 
     private static String picture(BandEngraver x, int what) {
