@@ -770,6 +770,12 @@ final class ActionSentences {
             noisy(c, "42 55 53 56 60 54", 6, 0, 10, 50, 50, 50, 50, 50, 50);
             noisy(c, "18 84 23 92 92 74", 6, 0, 50, 50, 50, 50, 50, 50, 50);
         });
+        s.holds("a long x starts as the seed", c -> {
+            for (int k = 0; k <= 100; k++) {
+                int due = Math.min(99, k);
+                noisy(c, Integer.toString(due), due == 50 ? 0 : 1, Seeds.forNumber(k), 50, 50);
+            }
+        });
         s.holds("for each cell, by its number", c -> {
             BandEngraver x = new BandEngraver();
             x.plate(2, 3);

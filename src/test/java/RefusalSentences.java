@@ -82,6 +82,13 @@ final class RefusalSentences {
             c.outOfRange("a value", () -> x.least(0));
             c.outOfRange("a number of commands", () -> x.runScript(3, 0));
         });
+        s.holds("IllegalStateException means what the method says.", c -> {
+            BandEngraver x = busy();
+            c.wrongState("load of what is not a plate", () -> x.load());
+            c.wrongState("restore of an empty slot", () -> x.restore(1));
+            c.wrongState("threshold, a sixth", () -> x.threshold(60, true));
+            c.wrongState("undo of nothing", () -> new BandEngraver().undo());
+        });
         s.holds("`NONE = -1`: There is no such result.", c -> {
             c.due("NONE", -1, () -> BandEngraver.NONE);
             c.due("no mother", -1, () -> new BandEngraver().island(0, 7));

@@ -241,6 +241,22 @@ final class ScriptSentences {
     }
 
     private void otherGroups() {
+        s.holds("xx, yy, gg, vv, iii and nnn are decimal numbers.", c -> {
+            BandEngraver x = new BandEngraver();
+            x.plate(12, 12);
+            script(c, x, -1, 10809890, 90809001);
+            script(c, x, -1, 11010090, 91010000);
+            script(c, x, -1, 11110100, 91110000);
+            script(c, x, -1, 40900000, 80000001);
+            script(c, x, -1, 30910000, 90000000);
+            script(c, x, -1, 20809892, 70000135);
+            script(c, x, 1, 20809892, 70000136);
+            BandEngraver y = Pictures.chequered(12, 12);
+            command(c, y, 70080001, true);
+            command(c, y, 71090001, true);
+            command(c, y, 80000145, true);
+            command(c, y, 80000099, false);
+        });
         s.holds("The commands 1 to 6 fail if the method would throw an exception", c -> {
             BandEngraver x = new BandEngraver();
             command(c, x, 10800000, false);

@@ -390,6 +390,11 @@ final class TermsSentences {
     }
 
     private void corners() {
+        s.holds("the island is on the right all the time.", c -> {
+            // Round its hole the island would be on the right too, but that is not its outline.
+            outlined(c, "000111222333", 0, "111", "101", "111");
+            outlined(c, "0123", 1, "111", "101", "111");
+        });
         s.holds("if the cell that is ahead on the right is not of the island, it turns right", c -> {
             // Where two cells of the island meet across, it turns right and not to the other one.
             outlined(c, "0001123210122333", 0, "111", "101", "110");
@@ -480,6 +485,15 @@ final class TermsSentences {
     }
 
     private void ink() {
+        s.holds("The hatching of a cell needs as much ink as the hatching of its band tells", c -> {
+            // The band of the cell in the middle is not that of its grey.
+            BandEngraver x = Pictures.plate("00500");
+            c.due("one five and two sides", 5 + 2, () -> x.ink());
+            x.least(2);
+            c.due("all noughts", 0, () -> x.ink());
+            x.hatch(0, 9);
+            c.due("all of the band 0", 45, () -> x.ink());
+        });
         s.holds("each band, 0 to 5, has one of 0 to 9, at first its number.", c -> {
             BandEngraver x = new BandEngraver();
             for (int b = 0; b <= 5; b++) {

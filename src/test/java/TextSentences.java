@@ -175,6 +175,14 @@ final class TextSentences {
     }
 
     private void signs() {
+        s.holds("The text is read from left to right.", c -> {
+            left(c, "E0101k50t50", 0, "50");
+            left(c, "E0101t50k50", 1, "");
+            BandEngraver x = Pictures.row(0);
+            Pictures.write(x, "E0101p000030p000070i");
+            c.due("load", 0, () -> x.load());
+            c.due("the grey", 29, () -> x.cellOf(0, 0, 0));
+        });
         s.holds("There are no blanks.", c -> {
             error(c, " E0101", 0);
             error(c, "E 0101", 1);
