@@ -31,6 +31,10 @@ public final class FaceTest {
 
     public static void main(String[] args) throws IOException {
         face();
+        Path document = Path.of(System.getProperty("document", "../shared/DOC.md"));
+        if (Files.isReadable(document)) {
+            declared(Files.readString(document));
+        }
         names();
         sizes();
         if (args.length > 0) {
@@ -78,6 +82,27 @@ public final class FaceTest {
         }
         CHECKS.same("what it extends", "class java.lang.Object", c.getSuperclass().toString());
         CHECKS.same("what it implements", "[]", Arrays.toString(c.getInterfaces()));
+    }
+
+    /** Each method is declared as the document's face declares it, with the same exceptions. */
+    private static void declared(String document) {
+        Set<String> due = new TreeSet<>();
+        Matcher line = Pattern.compile("\n    public int (\\w+)\\((.*)\\)(.*);").matcher(document);
+        while (line.find()) {
+            due.add("int " + line.group(1) + "(" + line.group(2).replaceAll(" \\w+(,|$) ?", "$1") + ")"
+                    + line.group(3));
+        }
+        Set<String> found = new TreeSet<>();
+        for (Method m : BandEngraver.class.getDeclaredMethods()) {
+            if (Modifier.isPublic(m.getModifiers())) {
+                StringBuilder s = new StringBuilder(told(m));
+                for (Class<?> thrown : m.getExceptionTypes()) {
+                    s.append(s.charAt(s.length() - 1) == ')' ? " throws " : ", ").append(thrown.getSimpleName());
+                }
+                found.add(s.toString());
+            }
+        }
+        CHECKS.same("the declared methods", due.toString(), found.toString());
     }
 
     private static void names() {
